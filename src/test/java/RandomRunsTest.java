@@ -1,0 +1,120 @@
+/** Many runs of 512 calls that are drawn by a fixed rule, each answered by the class and by the model. */
+public final class RandomRunsTest {
+    private static final int RUNS = 1500;
+    private static final int CALLS = 512;
+    private static final String[] NAMES = {"make", "lay", "places", "kind", "tag", "load", "put", "putBoxed",
+        "putThing", "number", "point", "what", "take", "copy", "gather", "scatter", "merge", "sort", "turn", "sum",
+        "total", "find", "alike"};
+    /** How each call's parameters are drawn: c column, k kind, n size or tag, i place, s sort, a b value, t turn. */
+    private static final String[] DRAWS = {"ckn", "cc", "c", "c", "c", "c", "cisab", "cisab", "cic", "cis", "cis",
+        "ci", "cic", "cc", "cxc", "cxc", "ccc", "c", "ct", "c", "c", "cisab", "cc"};
+    private static final int[] EDGES = {0, 1, -1, 2, 12, 24, 25, 127, 128, 255, 32767, 32768, 65535, 65536, 1 << 24,
+        (1 << 24) + 1, (1 << 24) + 3, Integer.MIN_VALUE, Integer.MAX_VALUE};
+
+    private static long seed = 20261116;
+    private static int size = 0;
+    private static int spread = 1;
+
+    public static void main(String[] args) {
+        Check check = new Check();
+        int[][] reached = new int[NAMES.length][7];
+        for (int run = 0; run < RUNS; run++) {
+            size = draw(4) == 0 ? draw(25) : draw(7);
+            spread = 3 + draw(10);
+            run(check, run, reached);
+        }
+        for (int n = 0; n < NAMES.length; n++) {
+            check.due(NAMES[n] + " was done", reached[n][0] > 100, true);
+        }
+        // Where a reason can't be told at a call, nothing may have reached it, and all the others must be reached.
+        String[] reasons = {"1", "1", "123", "1", "15", "15", "12345", "12345", "12345", "12345", "12345", "1234",
+            "12346", "12345", "123456", "123456", "123456", "123", "123", "1236", "1236", "1236", "123"};
+        for (int n = 0; n < NAMES.length; n++) {
+            for (int reason = 1; reason <= 6; reason++) {
+                check.due(NAMES[n] + " refused by " + reason, reached[n][reason] > 0,
+                    reasons[n].indexOf('0' + reason) >= 0);
+            }
+        }
+        check.end("RandomRunsTest");
+    }
+
+    private static void run(Check check, int run, int[][] reached) {
+        ColumnHouse house = new ColumnHouse();
+        Model model = new Model();
+        for (int step = 0; step < CALLS; step++) {
+            int n = step < 20 || draw(6) == 0 ? 0 : draw(4) == 0 ? 6 + draw(3) : draw(NAMES.length);
+            int[] p = new int[DRAWS[n].length()];
+            for (int k = 0; k < p.length; k++) {
+                p[k] = parameter(DRAWS[n].charAt(k));
+            }
+            String call = "run " + run + ", call " + step + ": " + NAMES[n] + java.util.Arrays.toString(p);
+            check.due(call, answer(house, NAMES[n], p), model.call(NAMES[n], p));
+            check.due("why() after " + call, house.why(), model.why());
+            reached[n][house.why()]++;
+        }
+        sameHouse(check, run, house, model);
+    }
+
+    private static void sameHouse(Check check, int run, ColumnHouse house, Model model) {
+        for (int c = 0; c < 12; c++) {
+            for (int i = 0; i < 24; i++) {
+                String place = "run " + run + ", at its end: column " + c + ", place " + i;
+                check.due(place, answer(house, "what", new int[] {c, i}), model.call("what", c, i));
+                check.due(place, answer(house, "number", new int[] {c, i, house.kind(c)}),
+                    model.call("number", c, i, house.kind(c)));
+                check.due(place, answer(house, "point", new int[] {c, i, 7}), model.call("point", c, i, 7));
+            }
+        }
+    }
+
+    private static int draw(int bound) {
+        seed = seed * 6364136223846793005L + 1442695040888963407L;
+        return (int) Long.remainderUnsigned(seed >>> 33, bound);
+    }
+
+    private static int parameter(char what) {
+        if (draw(60) == 0) {
+            return EDGES[draw(EDGES.length)];
+        }
+        switch (what) {
+            case 'c': return draw(Math.min(12, spread));
+            case 'x': return draw(Math.min(12, spread));
+            case 'k': return draw(3) == 0 ? draw(8) : draw(5) == 0 ? 4 : draw(15);
+            case 'n': return draw(5) == 0 ? draw(25) : draw(6) == 0 ? 2 * size : size;
+            case 'i': return draw(15) == 0 ? draw(26) - 1 : draw(Math.max(size, 1));
+            case 's': return draw(3) == 0 ? 1 + draw(3) : draw(8);
+            case 'a': return draw(8) == 0 ? EDGES[draw(EDGES.length)] : draw(8) == 0 ? -1 : 0;
+            case 'b': return draw(6) == 0 ? EDGES[draw(EDGES.length)] : draw(2) == 0 ? draw(Math.max(size, 1)) : draw(60);
+            default: return draw(60) - 30;
+        }
+    }
+
+    private static Object answer(ColumnHouse house, String name, int[] p) {
+        switch (name) {
+            case "make": return (long) house.make(p[0], p[1], p[2]);
+            case "lay": return (long) house.lay(p[0], p[1]);
+            case "places": return (long) house.places(p[0]);
+            case "kind": return (long) house.kind(p[0]);
+            case "tag": return (long) house.tag(p[0]);
+            case "load": return (long) house.load(p[0]);
+            case "put": return (long) house.put(p[0], p[1], p[2], p[3], p[4]);
+            case "putBoxed": return (long) house.putBoxed(p[0], p[1], p[2], p[3], p[4]);
+            case "putThing": return (long) house.putThing(p[0], p[1], p[2]);
+            case "number": return house.number(p[0], p[1], p[2]);
+            case "point": return house.point(p[0], p[1], p[2]);
+            case "what": return (long) house.what(p[0], p[1]);
+            case "take": return (long) house.take(p[0], p[1], p[2]);
+            case "copy": return (long) house.copy(p[0], p[1]);
+            case "gather": return (long) house.gather(p[0], p[1], p[2]);
+            case "scatter": return (long) house.scatter(p[0], p[1], p[2]);
+            case "merge": return (long) house.merge(p[0], p[1], p[2]);
+            case "sort": return (long) house.sort(p[0]);
+            case "turn": return (long) house.turn(p[0], p[1]);
+            case "sum": return house.sum(p[0]);
+            case "total": return house.total(p[0]);
+            case "find": return (long) house.find(p[0], p[1], p[2], p[3], p[4]);
+            case "alike": return (long) house.alike(p[0], p[1]);
+            default: throw new IllegalArgumentException(name);
+        }
+    }
+}
