@@ -18,7 +18,6 @@ public final class ColumnHouse {
     private static final int CARDS = 8;
     private static final int BADGES = 9;
     private static final int SHEETS = 10;
-    private static final int DECKS = 11;
     private static final int CARD = 12;
     private static final int BADGE = 14;
 
@@ -227,11 +226,9 @@ public final class ColumnHouse {
         if (from == null || index == null || to == null) {
             return refuse(whyNoRow(c, x, d));
         }
-        if (!goesInto(index.kind, INT)) {
-            return refuse(WRONG_KIND);
-        }
-        if (index.size != to.size) {
-            return refuse(WRONG_PLACE);
+        int amiss = whyNoIndex(index, to.size);
+        if (amiss != 0) {
+            return refuse(amiss);
         }
         for (int k = 0; k < to.size; k++) {
             int source = placeAt(index, k);
@@ -252,11 +249,9 @@ public final class ColumnHouse {
         if (from == null || index == null || to == null) {
             return refuse(whyNoRow(c, x, d));
         }
-        if (!goesInto(index.kind, INT)) {
-            return refuse(WRONG_KIND);
-        }
-        if (index.size != from.size) {
-            return refuse(WRONG_PLACE);
+        int amiss = whyNoIndex(index, from.size);
+        if (amiss != 0) {
+            return refuse(amiss);
         }
         for (int k = 0; k < index.size; k++) {
             targets[k] = placeAt(index, k);
@@ -494,10 +489,18 @@ public final class ColumnHouse {
         if (from == to) {
             return true;
         }
-        if (from == FLAG || to == CHAR || from == CHAR && to == SHORT) {
+        if (from == FLAG || to == CHAR || (from == CHAR && to == SHORT)) {
             return false;
         }
         return from < to;
+    }
+
+    /** Why a row doesn't tell a place for each of so many; 0 if it does. */
+    private static int whyNoIndex(Row index, int count) {
+        if (!goesInto(index.kind, INT)) {
+            return WRONG_KIND;
+        }
+        return index.size == count ? 0 : WRONG_PLACE;
     }
 
     private int placeAt(Row index, int k) {
@@ -665,18 +668,16 @@ public final class ColumnHouse {
         }
 
         private boolean fits(int other) {
-            switch (kind) {
-                case CARDS:
-                    return other >= CARD;
-                case BADGES:
-                    return other == BADGE;
-                case SHEETS:
-                    return other == INT;
-                case DECKS:
-                    return other == CARDS || other == BADGES;
-                default:
-                    return false;
+            if (kind == CARDS) {
+                return other >= CARD;
             }
+            if (kind == BADGES) {
+                return other == BADGE;
+            }
+            if (kind == SHEETS) {
+                return other == INT;
+            }
+            return other == CARDS || other == BADGES;
         }
 
         void read(int i, Cell into) {
@@ -751,7 +752,10 @@ public final class ColumnHouse {
             if (sort >= FLOAT) {
                 return point;
             }
-            return wanted == FLOAT ? (float) whole : (double) whole;
+            if (wanted == FLOAT) {
+                return (float) whole;
+            }
+            return (double) whole;
         }
 
         boolean isLike(Cell other) {

@@ -1,6 +1,7 @@
 /** Many runs of 512 calls that are drawn by a fixed rule, each answered by the class and by the model. */
 public final class RandomRunsTest {
     private static final int RUNS = 1500;
+    private static final int MERGE = 16;
     private static final int CALLS = 512;
     private static final String[] NAMES = {"make", "lay", "places", "kind", "tag", "load", "put", "putBoxed",
         "putThing", "number", "point", "what", "take", "copy", "gather", "scatter", "merge", "sort", "turn", "sum",
@@ -14,12 +15,15 @@ public final class RandomRunsTest {
     private static long seed = 20261116;
     private static int size = 0;
     private static int spread = 1;
+    /** Runs of values alone, small ones, in rows that can be merged: there most calls are done. */
+    private static boolean plain = false;
 
     public static void main(String[] args) {
         Check check = new Check();
         int[][] reached = new int[NAMES.length][7];
         for (int run = 0; run < RUNS; run++) {
-            size = draw(4) == 0 ? draw(25) : draw(7);
+            plain = run % 3 == 0;
+            size = draw(4) == 0 ? draw(plain ? 13 : 25) : draw(7);
             spread = 3 + draw(10);
             run(check, run, reached);
         }
@@ -42,7 +46,8 @@ public final class RandomRunsTest {
         ColumnHouse house = new ColumnHouse();
         Model model = new Model();
         for (int step = 0; step < CALLS; step++) {
-            int n = step < 20 || draw(6) == 0 ? 0 : draw(4) == 0 ? 6 + draw(3) : draw(NAMES.length);
+            int n = step < 20 || draw(6) == 0 ? 0 : draw(4) == 0 ? 6 + draw(plain ? 2 : 3)
+                : plain && draw(4) == 0 ? MERGE : draw(NAMES.length);
             int[] p = new int[DRAWS[n].length()];
             for (int k = 0; k < p.length; k++) {
                 p[k] = parameter(DRAWS[n].charAt(k));
@@ -79,12 +84,12 @@ public final class RandomRunsTest {
         switch (what) {
             case 'c': return draw(Math.min(12, spread));
             case 'x': return draw(Math.min(12, spread));
-            case 'k': return draw(3) == 0 ? draw(8) : draw(5) == 0 ? 4 : draw(15);
-            case 'n': return draw(5) == 0 ? draw(25) : draw(6) == 0 ? 2 * size : size;
+            case 'k': return plain ? draw(8) : draw(3) == 0 ? draw(8) : draw(5) == 0 ? 4 : draw(15);
+            case 'n': return plain ? (draw(3) == 0 ? 2 * size : size) : draw(5) == 0 ? draw(25) : draw(6) == 0 ? 2 * size : size;
             case 'i': return draw(15) == 0 ? draw(26) - 1 : draw(Math.max(size, 1));
             case 's': return draw(3) == 0 ? 1 + draw(3) : draw(8);
             case 'a': return draw(8) == 0 ? EDGES[draw(EDGES.length)] : draw(8) == 0 ? -1 : 0;
-            case 'b': return draw(6) == 0 ? EDGES[draw(EDGES.length)] : draw(2) == 0 ? draw(Math.max(size, 1)) : draw(60);
+            case 'b': return plain && draw(2) == 0 ? 8 * draw(4) : draw(6) == 0 ? EDGES[draw(EDGES.length)] : draw(2) == 0 ? draw(Math.max(size, 1)) : draw(60);
             default: return draw(60) - 30;
         }
     }

@@ -148,5 +148,48 @@ public final class ThingsTest {
         CHECK.due("why() after a wrong number", house.why(), 1);
         house.lay(0, 1);
         CHECK.due("why() after a call that was done and answered 0", house.why(), 0);
+        whyAfterRefused();
+    }
+
+    /** Every call that is done takes away the reason of the one before. */
+    private static void whyAfterRefused() {
+        ColumnHouse house = new ColumnHouse();
+        Check.fill(house, 0, 4, 0, 1);
+        Check.fill(house, 1, 4, 0, 0, 1, 1);
+        house.make(2, 12, 5);
+        Check.fillThings(house, 3, 8, 2);
+        for (int call = 0; call < 23; call++) {
+            house.kind(-1);
+            callDone(house, call);
+            CHECK.due("why() after call " + call + " that was done", house.why(), 0);
+        }
+    }
+
+    private static void callDone(ColumnHouse house, int call) {
+        switch (call) {
+            case 0: house.make(4, 4, 2); break;
+            case 1: house.lay(0, 5); break;
+            case 2: house.places(0); break;
+            case 3: house.kind(0); break;
+            case 4: house.tag(2); break;
+            case 5: house.load(2); break;
+            case 6: house.put(0, 0, 4, 0, 0); break;
+            case 7: house.putBoxed(0, 0, 4, 0, 0); break;
+            case 8: house.putThing(3, 0, 2); break;
+            case 9: house.number(0, 0, 4); break;
+            case 10: house.point(0, 0, 7); break;
+            case 11: house.what(0, 0); break;
+            case 12: house.take(3, 0, 6); break;
+            case 13: house.copy(0, 4); break;
+            case 14: house.gather(0, 0, 4); break;
+            case 15: house.scatter(0, 0, 4); break;
+            case 16: house.merge(0, 4, 1); break;
+            case 17: house.sort(0); break;
+            case 18: house.turn(3, 1); break;
+            case 19: house.sum(0); break;
+            case 20: house.total(0); break;
+            case 21: house.find(0, 0, 4, 0, 9); break;
+            default: house.alike(0, 1); break;
+        }
     }
 }

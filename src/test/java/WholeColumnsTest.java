@@ -300,6 +300,13 @@ public final class WholeColumnsTest {
         house.make(2, 4, 5);
         CHECK.done(house, "merge of rows that are in no order", house.merge(0, 1, 2), 5);
         row(house, 2, "4: 5 1 6 2 7");
+        Check.fill(house, 0, 4, 3, 1);
+        Check.fill(house, 1, 4, 3, 5);
+        house.make(2, 4, 4);
+        CHECK.done(house, "merge: of LIKE ones that of c comes", house.merge(0, 1, 2), 4);
+        row(house, 2, "4: 3 1 3 5");
+        CHECK.done(house, "merge: of LIKE ones that of c comes", house.merge(1, 0, 2), 4);
+        row(house, 2, "4: 3 3 1 5");
         Check.fill(house, 0, 0, 0, 1);
         Check.fill(house, 1, 0, 0, 1, 1);
         house.make(2, 0, 5);
@@ -333,6 +340,8 @@ public final class WholeColumnsTest {
         Check.fill(house, 1, 6, -9, 39, 41);
         house.make(2, 6, 5);
         CHECK.done(house, "merge of BYTES and FLOATS", house.merge(0, 1, 2), 5);
+        row(house, 2, "6: -1.125 -1.0 4.875 5.0 5.125");
+        CHECK.done(house, "merge of FLOATS and BYTES", house.merge(1, 0, 2), 5);
         row(house, 2, "6: -1.125 -1.0 4.875 5.0 5.125");
         Check.fill(house, 0, 2, 65535);
         Check.fill(house, 1, 3, -1, 7);
