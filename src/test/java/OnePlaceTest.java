@@ -34,6 +34,7 @@ public final class OnePlaceTest {
     private static void putGoes(boolean boxed) {
         ColumnHouse house = new ColumnHouse();
         for (int kind = 0; kind < 8; kind++) {
+            house = new ColumnHouse();
             for (int sort = 0; sort < 8; sort++) {
                 String call = "put (boxed " + boxed + ") of sort " + sort + " into " + kind;
                 house.make(0, kind, 3);
@@ -55,11 +56,11 @@ public final class OnePlaceTest {
     private static void putTold(boolean boxed) {
         long[] told = {0, 1, 2, -1, 127, 128, 255, 256, 32767, 32768, 65535, 65536, 0x7FFFFFFFL, 0x80000000L,
             0xFFFFFFFFL, 0x100000000L, 0x1_8000_80C1L, Long.MAX_VALUE, Long.MIN_VALUE, 0x12345678_9ABCDEF0L};
-        ColumnHouse house = new ColumnHouse();
-        for (int sort = 0; sort < 8; sort++) {
-            house.make(sort, sort, 1);
-        }
         for (long v : told) {
+            ColumnHouse house = new ColumnHouse();
+            for (int sort = 0; sort < 8; sort++) {
+                house.make(sort, sort, 1);
+            }
             long[] want = {v & 1, (byte) v, (char) v, (short) v, (int) v, v};
             for (int sort = 0; sort < 6; sort++) {
                 put(boxed, house, sort, 0, sort, v);
@@ -131,8 +132,8 @@ public final class OnePlaceTest {
     }
 
     private static void putThingFits() {
-        ColumnHouse house = new ColumnHouse();
         for (int row = 8; row <= 11; row++) {
+            ColumnHouse house = new ColumnHouse();
             for (int kind = 0; kind <= 14; kind++) {
                 house.make(0, row, 2);
                 house.make(1, kind, 3);

@@ -142,6 +142,7 @@ public final class QuestionsTest {
     private static void alikeValues() {
         ColumnHouse house = new ColumnHouse();
         for (int first = 0; first < 12; first++) {
+            house = new ColumnHouse();
             for (int second = 0; second < 12; second++) {
                 house.make(0, first, 2);
                 house.make(1, second, 2);

@@ -1,8 +1,10 @@
-/** Many runs of 512 calls that are drawn by a fixed rule, each answered by the class and by the model. */
+/** Many runs that are drawn by a fixed rule, of the 512 calls that an object is used for; the model answers them too. */
 public final class RandomRunsTest {
-    private static final int RUNS = 1500;
+    private static final int RUNS = 4000;
     private static final int MERGE = 16;
-    private static final int CALLS = 512;
+    /** After each call there is one of why(); what is left of 512 looks at the house at the end. */
+    private static final int CALLS = 200;
+    private static final int LOOKS = 112;
     private static final String[] NAMES = {"make", "lay", "places", "kind", "tag", "load", "put", "putBoxed",
         "putThing", "number", "point", "what", "take", "copy", "gather", "scatter", "merge", "sort", "turn", "sum",
         "total", "find", "alike"};
@@ -53,22 +55,24 @@ public final class RandomRunsTest {
                 p[k] = parameter(DRAWS[n].charAt(k));
             }
             String call = "run " + run + ", call " + step + ": " + NAMES[n] + java.util.Arrays.toString(p);
-            check.due(call, answer(house, NAMES[n], p), model.call(NAMES[n], p));
-            check.due("why() after " + call, house.why(), model.why());
-            reached[n][house.why()]++;
+            check.due(call, Calls.answer(house, NAMES[n], p), model.call(NAMES[n], p));
+            int why = house.why();
+            check.due("why() after " + call, why, model.why());
+            reached[n][why]++;
         }
-        sameHouse(check, run, house, model);
+        look(check, run, house, model);
     }
 
-    private static void sameHouse(Check check, int run, ColumnHouse house, Model model) {
-        for (int c = 0; c < 12; c++) {
-            for (int i = 0; i < 24; i++) {
-                String place = "run " + run + ", at its end: column " + c + ", place " + i;
-                check.due(place, answer(house, "what", new int[] {c, i}), model.call("what", c, i));
-                check.due(place, answer(house, "number", new int[] {c, i, house.kind(c)}),
-                    model.call("number", c, i, house.kind(c)));
-                check.due(place, answer(house, "point", new int[] {c, i, 7}), model.call("point", c, i, 7));
-            }
+    /** Looks at what drawn places of the house have, by the kinds that the model says are there. */
+    private static void look(Check check, int run, ColumnHouse house, Model model) {
+        for (int looks = 0; looks < LOOKS; looks++) {
+            int c = draw(Math.min(12, spread));
+            int i = draw(Math.max(size, 1));
+            long kind = (Long) model.call("kind", c);
+            String name = kind < 0 || kind > 7 ? "what" : kind < 6 ? "number" : "point";
+            int[] p = name.equals("what") ? new int[] {c, i} : new int[] {c, i, (int) kind};
+            check.due("run " + run + ", at its end: " + name + java.util.Arrays.toString(p),
+                Calls.answer(house, name, p), model.call(name, p));
         }
     }
 
@@ -91,35 +95,6 @@ public final class RandomRunsTest {
             case 'a': return draw(8) == 0 ? EDGES[draw(EDGES.length)] : draw(8) == 0 ? -1 : 0;
             case 'b': return plain && draw(2) == 0 ? 8 * draw(4) : draw(6) == 0 ? EDGES[draw(EDGES.length)] : draw(2) == 0 ? draw(Math.max(size, 1)) : draw(60);
             default: return draw(60) - 30;
-        }
-    }
-
-    private static Object answer(ColumnHouse house, String name, int[] p) {
-        switch (name) {
-            case "make": return (long) house.make(p[0], p[1], p[2]);
-            case "lay": return (long) house.lay(p[0], p[1]);
-            case "places": return (long) house.places(p[0]);
-            case "kind": return (long) house.kind(p[0]);
-            case "tag": return (long) house.tag(p[0]);
-            case "load": return (long) house.load(p[0]);
-            case "put": return (long) house.put(p[0], p[1], p[2], p[3], p[4]);
-            case "putBoxed": return (long) house.putBoxed(p[0], p[1], p[2], p[3], p[4]);
-            case "putThing": return (long) house.putThing(p[0], p[1], p[2]);
-            case "number": return house.number(p[0], p[1], p[2]);
-            case "point": return house.point(p[0], p[1], p[2]);
-            case "what": return (long) house.what(p[0], p[1]);
-            case "take": return (long) house.take(p[0], p[1], p[2]);
-            case "copy": return (long) house.copy(p[0], p[1]);
-            case "gather": return (long) house.gather(p[0], p[1], p[2]);
-            case "scatter": return (long) house.scatter(p[0], p[1], p[2]);
-            case "merge": return (long) house.merge(p[0], p[1], p[2]);
-            case "sort": return (long) house.sort(p[0]);
-            case "turn": return (long) house.turn(p[0], p[1]);
-            case "sum": return house.sum(p[0]);
-            case "total": return house.total(p[0]);
-            case "find": return (long) house.find(p[0], p[1], p[2], p[3], p[4]);
-            case "alike": return (long) house.alike(p[0], p[1]);
-            default: throw new IllegalArgumentException(name);
         }
     }
 }

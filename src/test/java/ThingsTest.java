@@ -30,6 +30,7 @@ public final class ThingsTest {
     private static void make() {
         ColumnHouse house = new ColumnHouse();
         for (int k = 0; k <= 11; k++) {
+            house = new ColumnHouse();
             for (int n : new int[] {0, 1, 24}) {
                 String call = "make(" + k + ", " + k + ", " + n + ")";
                 CHECK.done(house, call, house.make(k, k, n), 1);

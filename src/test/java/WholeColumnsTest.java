@@ -35,6 +35,7 @@ public final class WholeColumnsTest {
     private static void copyGoes() {
         ColumnHouse house = new ColumnHouse();
         for (int from = 0; from < 12; from++) {
+            house = new ColumnHouse();
             for (int to = 0; to < 12; to++) {
                 house.make(0, from, 2);
                 house.make(1, to, 2);
@@ -184,11 +185,12 @@ public final class WholeColumnsTest {
         CHECK.refused(house, "gather: d longer than x", house.gather(0, 1, 2), 4);
         CHECK.refused(house, "gather: values to things", house.gather(0, 0, 2), 5);
         CHECK.refused(house, "gather: things to values", house.gather(2, 0, 0), 5);
-        placesAmiss(house, true);
+        placesAmiss(true);
     }
 
     /** Which place counts, and what of it, at gather (c is column 6) and scatter (d is column 6). */
-    private static void placesAmiss(ColumnHouse house, boolean gather) {
+    private static void placesAmiss(boolean gather) {
+        ColumnHouse house = new ColumnHouse();
         house.make(7, 12, 1);
         house.make(8, 14, 2);
         int[][] xs = {{0, -1}, {0, 2}, {0, Integer.MIN_VALUE}, {0, Integer.MAX_VALUE}, {1, 5}, {5, 1}, {0, 1}};
@@ -271,12 +273,15 @@ public final class WholeColumnsTest {
         CHECK.refused(house, "scatter: c longer than x", house.scatter(0, 1, 2), 4);
         CHECK.refused(house, "scatter: values to things", house.scatter(0, 0, 2), 5);
         CHECK.refused(house, "scatter: things to values", house.scatter(2, 0, 0), 5);
-        placesAmiss(house, false);
-        cardAheadOfPlace(house);
+        placesAmiss(false);
+        cardAheadOfPlace();
     }
 
     /** The first place of c is amiss by its card, the second has no target: the first one counts. */
-    private static void cardAheadOfPlace(ColumnHouse house) {
+    private static void cardAheadOfPlace() {
+        ColumnHouse house = new ColumnHouse();
+        house.make(7, 12, 1);
+        house.make(8, 14, 2);
         Check.fillThings(house, 6, 9, 8, 8);
         Check.fillThings(house, 9, 8, 7, 8);
         Check.fill(house, 5, 4, 0, 2);
