@@ -1,4 +1,4 @@
-/** The boundary cases of promises 8 to 14 (put, putBoxed, putThing, number, point, what, take), a test for each sentence. */
+/** The boundary cases of promises 8 to 14 (put to take), a test for each sentence. */
 public final class OnePlaceEdgesTest {
     private static final Sentences SENTENCES = new Sentences();
 

@@ -1,4 +1,4 @@
-/** Many runs that are drawn by a fixed rule, of the 512 calls that an object is used for; the model answers them too. */
+/** Runs that are drawn by a fixed rule, of the 512 calls that an object is used for; the model answers them too. */
 public final class RandomRunsTest {
     private static final int RUNS = 4000;
     private static final int MERGE = 16;
@@ -89,11 +89,12 @@ public final class RandomRunsTest {
             case 'c': return draw(Math.min(12, spread));
             case 'x': return draw(Math.min(12, spread));
             case 'k': return plain ? draw(8) : draw(3) == 0 ? draw(8) : draw(5) == 0 ? 4 : draw(15);
-            case 'n': return plain ? (draw(3) == 0 ? 2 * size : size) : draw(5) == 0 ? draw(25) : draw(6) == 0 ? 2 * size : size;
+            case 'n': return !plain && draw(5) == 0 ? draw(25) : draw(plain ? 3 : 6) == 0 ? 2 * size : size;
             case 'i': return draw(15) == 0 ? draw(26) - 1 : draw(Math.max(size, 1));
             case 's': return draw(3) == 0 ? 1 + draw(3) : draw(8);
             case 'a': return draw(8) == 0 ? EDGES[draw(EDGES.length)] : draw(8) == 0 ? -1 : 0;
-            case 'b': return plain && draw(2) == 0 ? 8 * draw(4) : draw(6) == 0 ? EDGES[draw(EDGES.length)] : draw(2) == 0 ? draw(Math.max(size, 1)) : draw(60);
+            case 'b': return plain && draw(2) == 0 ? 8 * draw(4) : draw(6) == 0 ? EDGES[draw(EDGES.length)]
+                : draw(draw(2) == 0 ? Math.max(size, 1) : 60);
             default: return draw(60) - 30;
         }
     }

@@ -137,7 +137,7 @@ final class Sentences {
     }
 
     private static int[] parameters(String[] words, int end) {
-        boolean split = (words[0].startsWith("put") || words[0].equals("find")) && end == 5 && !words[0].equals("putThing");
+        boolean split = end == 5 && List.of("put", "putBoxed", "find").contains(words[0]);
         int[] p = new int[split ? 5 : end - 1];
         for (int k = 1; k < end; k++) {
             long value = number(words[k]);
@@ -201,7 +201,7 @@ final class Sentences {
         StringBuilder text = new StringBuilder().append(kind).append(':');
         long places = ask("places", c);
         for (int i = 0; i < places; i++) {
-            text.append(' ').append(kind < 6 ? call("number", c, i, kind) : kind < 8 ? call("point", c, i, kind) : thing(c, i));
+            text.append(' ').append(kind >= 8 ? thing(c, i) : call(kind < 6 ? "number" : "point", c, i, kind));
         }
         return text.toString();
     }

@@ -232,8 +232,9 @@ public final class ThingsEdgesTest {
             """);
         SENTENCES.test("WHY 0.", "why = 0");
         // Each line is a call and one of why().
-        SENTENCES.test("An object is used for at most 512 calls after it has been made", "make {0..11} 11 24\n".repeat(20)
-            + "make 11 4 24\n" + "put 11 23 4 7\nnumber 11 23 4 = 7\n".repeat(7) + "sum 11 = 7\n");
+        SENTENCES.test("An object is used for at most 512 calls after it has been made",
+            "make {0..11} 11 24\n".repeat(20) + "make 11 4 24\n"
+            + "put 11 23 4 7\nnumber 11 23 4 = 7\n".repeat(7) + "sum 11 = 7\n");
     }
 
     private static void make() {
@@ -328,7 +329,8 @@ public final class ThingsEdgesTest {
 
     private static void tagAndLoad() {
         for (String call : new String[] {"tag", "load"}) {
-            SENTENCES.test("The " + call.toUpperCase() + " of the card in column c. Reasons: 1; 5: it holds no card.", """
+            String word = call.toUpperCase();
+            SENTENCES.test("The " + word + " of the card in column c. Reasons: 1; 5: it holds no card.", """
                 make 0 12 1
                 make 11 13 1
                 CALL {0 11} = 1

@@ -1,4 +1,4 @@
-/** The boundary cases of the document's terms on values, a test for each sentence: SORT, TOLD, GOES INTO, LIKE, LESS. */
+/** The boundary cases of the terms on values, a test for each sentence: SORT, TOLD, GOES INTO, LIKE, LESS. */
 public final class ValuesEdgesTest {
     private static final Sentences SENTENCES = new Sentences();
     private static final String[] SORTS = {"FLAG", "BYTE", "CHAR", "SHORT", "INT", "LONG", "FLOAT", "DOUBLE"};
@@ -289,8 +289,9 @@ public final class ValuesEdgesTest {
             nearest(5, 7, "-2^63", "-0x1p63"));
         SENTENCES.test("A value that goes into a sort becomes the number of that sort that is nearest to it. "
             + "(into DOUBLE without loss)", nearest(1, 7, "-128", "-128"), nearest(2, 7, "65535", "65535"),
-            nearest(3, 7, "-32768", "-32768"), nearest(4, 7, "2^31-1", "2147483647"), nearest(4, 7, "2^24+1", "16777217"),
-            nearest(6, 7, "1", "0.125"), nearest(6, 7, "2^24-1", "2097151.875"), nearest(6, 7, "2^24+1", "2097152"),
+            nearest(3, 7, "-32768", "-32768"), nearest(4, 7, "2^31-1", "2147483647"),
+            nearest(4, 7, "2^24+1", "16777217"), nearest(6, 7, "1", "0.125"),
+            nearest(6, 7, "2^24-1", "2097151.875"), nearest(6, 7, "2^24+1", "2097152"),
             nearest(6, 7, "2^63-1", "0x1p60"));
     }
 

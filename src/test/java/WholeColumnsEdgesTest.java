@@ -443,8 +443,8 @@ public final class WholeColumnsEdgesTest {
     }
 
     private static void scatter() {
-        test("scatter", "The place that column x has at k, as an INT, of the row in column d gets what that in column c "
-            + "has at k; k from 0 on", """
+        test("scatter", "The place that column x has at k, as an INT, of the row in column d gets what that in "
+            + "column c has at k; k from 0 on", """
             fill 0 4: UP
             fill 1 4: LAST_FIRST
             make 2 4 24

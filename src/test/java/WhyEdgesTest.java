@@ -60,19 +60,21 @@ public final class WhyEdgesTest {
             fill 1 4: 0 0 1 1
             make 2 12 5
             things 3 8: 2 -
-            """ + afterRefused("make 4 4 2 = 1", "lay 0 5 = 1", "places 0 = 2", "kind 0 = 4", "tag 2 = 5", "load 2 = 5",
-            "put 0 0 4 0 = 1", "putBoxed 0 0 4 0 = 1", "putThing 3 0 2 = 1", "number 0 1 4 = 1", "point 0 1 7 = 1",
-            "what 0 0 = 4", "take 3 0 6 = 1", "copy 0 4 = 2", "gather 0 0 4 = 2", "scatter 0 0 4 = 2", "merge 0 4 1 = 4",
-            "sort 0 = 0", "turn 3 2 = 2", "sum 0 = 1", "total 0 = 1", "find 0 0 4 1 = 1", "alike 0 4 = 1"));
+            """ + afterRefused("make 4 4 2 = 1", "lay 0 5 = 1", "places 0 = 2", "kind 0 = 4", "tag 2 = 5",
+            "load 2 = 5", "put 0 0 4 0 = 1", "putBoxed 0 0 4 0 = 1", "putThing 3 0 2 = 1", "number 0 1 4 = 1",
+            "point 0 1 7 = 1", "what 0 0 = 4", "take 3 0 6 = 1", "copy 0 4 = 2", "gather 0 0 4 = 2",
+            "scatter 0 0 4 = 2", "merge 0 4 1 = 4", "sort 0 = 0", "turn 3 2 = 2", "sum 0 = 1", "total 0 = 1",
+            "find 0 0 4 1 = 1", "alike 0 4 = 1"));
         SENTENCES.test("0 it was done (with the answer 0, or -1)", """
             make 0 4 0
             make 1 4 1
             make 2 12 0
             make 3 8 1
-            """ + afterRefused("lay 4 5 = 0", "places 0 = 0", "kind 4 = -1", "tag 2 = 0", "load 2 = 0", "putThing 3 0 4 = 0",
-            "number 1 0 4 = 0", "point 1 0 6 = 0", "what 3 0 = -1", "take 3 0 5 = 0", "copy 0 0 = 0", "gather 0 0 0 = 0",
-            "scatter 0 0 0 = 0", "merge 0 0 0 = 0", "sort 1 = 0", "turn 0 1 = 0", "sum 1 = 0", "total 1 = 0",
-            "find 1 0 4 9 = -1", "find 1 0 4 0 = 0", "alike 0 1 = 0", "make 1 0 0", "kind 1 = 0"));
+            """ + afterRefused("lay 4 5 = 0", "places 0 = 0", "kind 4 = -1", "tag 2 = 0", "load 2 = 0",
+            "putThing 3 0 4 = 0", "number 1 0 4 = 0", "point 1 0 6 = 0", "what 3 0 = -1", "take 3 0 5 = 0",
+            "copy 0 0 = 0", "gather 0 0 0 = 0", "scatter 0 0 0 = 0", "merge 0 0 0 = 0", "sort 1 = 0", "turn 0 1 = 0",
+            "sum 1 = 0", "total 1 = 0", "find 1 0 4 9 = -1", "find 1 0 4 0 = 0", "alike 0 1 = 0", "make 1 0 0",
+            "kind 1 = 0"));
     }
 
     private static String afterRefused(String... calls) {
@@ -85,10 +87,10 @@ public final class WhyEdgesTest {
 
     private static void wrongNumber() {
         String[] calls = {"make C 4 1", "lay C 0", "lay 0 C", "places C", "kind C", "tag C", "load C", "put C 0 4 1",
-            "putBoxed C 0 4 1", "putThing C 0 0", "putThing 0 0 C", "number C 0 4", "point C 0 7", "what C 0", "take C 0 0",
-            "take 0 0 C", "copy C 0", "copy 0 C", "gather C 0 0", "gather 0 C 0", "gather 0 0 C", "scatter C 0 0",
-            "scatter 0 C 0", "scatter 0 0 C", "merge C 0 0", "merge 0 C 0", "merge 0 0 C", "sort C", "turn C 1", "sum C",
-            "total C", "find C 0 4 0", "alike C 0", "alike 0 C"};
+            "putBoxed C 0 4 1", "putThing C 0 0", "putThing 0 0 C", "number C 0 4", "point C 0 7", "what C 0",
+            "take C 0 0", "take 0 0 C", "copy C 0", "copy 0 C", "gather C 0 0", "gather 0 C 0", "gather 0 0 C",
+            "scatter C 0 0", "scatter 0 C 0", "scatter 0 0 C", "merge C 0 0", "merge 0 C 0", "merge 0 0 C", "sort C",
+            "turn C 1", "sum C", "total C", "find C 0 4 0", "alike C 0", "alike 0 C"};
         for (String call : calls) {
             String wrong = call.replace("C", "{MIN -1 12 13 MAX}") + " ! 1\n";
             SENTENCES.test("1 a number that is not as told (a column that is not 0 .. 11 is such a one at every call): "
@@ -139,10 +141,10 @@ public final class WhyEdgesTest {
 
     /** Every call that wants a row, with another column in the place of each. */
     private static String where(String columns, int reason) {
-        String[] calls = {"places C", "put C 0 4 1", "putBoxed C 0 4 1", "putThing C 0 0", "number C 0 4", "point C 0 7",
-            "what C 0", "take C 0 0", "copy C 2", "copy 2 C", "gather C 3 2", "gather 2 C 2", "gather 2 3 C",
-            "scatter C 3 2", "scatter 2 C 2", "scatter 2 3 C", "merge C 2 2", "merge 2 C 2", "merge 2 2 C", "sort C",
-            "turn C 1", "sum C", "total C", "find C 0 4 0", "alike C 2", "alike 2 C"};
+        String[] calls = {"places C", "put C 0 4 1", "putBoxed C 0 4 1", "putThing C 0 0", "number C 0 4",
+            "point C 0 7", "what C 0", "take C 0 0", "copy C 2", "copy 2 C", "gather C 3 2", "gather 2 C 2",
+            "gather 2 3 C", "scatter C 3 2", "scatter 2 C 2", "scatter 2 3 C", "merge C 2 2", "merge 2 C 2",
+            "merge 2 2 C", "sort C", "turn C 1", "sum C", "total C", "find C 0 4 0", "alike C 2", "alike 2 C"};
         StringBuilder run = new StringBuilder();
         for (String call : calls) {
             run.append(call.replace("C", columns)).append(" ! ").append(reason).append("\n");
@@ -209,19 +211,20 @@ public final class WhyEdgesTest {
     }
 
     private static void refusedChangesNothing() {
-        String[] calls = {"make {-1 12} 4 2 ! 1", "make 2 {-1 15} 2 ! 1", "make 2 4 {-1 25} ! 1", "lay 2 12 ! 1", "lay 12 2 ! 1",
-            "put 2 0 8 3 ! 1", "put 2 2 4 3 ! 4", "put 2 0 5 3 ! 5", "put 6 0 4 3 ! 5", "putBoxed 2 0 8 3 ! 1",
-            "putBoxed 2 2 4 3 ! 4", "putBoxed 2 0 5 3 ! 5", "putBoxed 6 0 4 3 ! 5", "putThing 6 0 12 ! 1", "putThing 6 2 1 ! 4",
-            "putThing 7 1 0 ! 5", "putThing 2 0 10 ! 5", "number 2 0 6 ! 1", "point 2 0 5 ! 1", "take 6 0 12 ! 1",
-            "take 10 0 2 ! 2", "take 0 0 2 ! 3", "take 2 0 2 ! 6", "take 6 2 2 ! 4", "copy 2 7 ! 5", "copy 6 7 ! 5", "copy 4 2 ! 5",
-            "gather 6 2 7 ! 5", "gather 6 3 7 ! 5", "gather 4 9 2 ! 5", "gather 2 9 4 ! 4", "scatter 6 2 7 ! 5",
-            "scatter 6 3 7 ! 5", "scatter 2 9 4 ! 4", "merge 2 5 9 ! 6", "merge 2 3 4 ! 4", "sort 10 ! 2", "sort 0 ! 3",
-            "turn 10 1 ! 2", "turn 0 1 ! 3"};
+        String[] calls = {"make {-1 12} 4 2 ! 1", "make 2 {-1 15} 2 ! 1", "make 2 4 {-1 25} ! 1", "lay 2 12 ! 1",
+            "lay 12 2 ! 1", "put 2 0 8 3 ! 1", "put 2 2 4 3 ! 4", "put 2 0 5 3 ! 5", "put 6 0 4 3 ! 5",
+            "putBoxed 2 0 8 3 ! 1", "putBoxed 2 2 4 3 ! 4", "putBoxed 2 0 5 3 ! 5", "putBoxed 6 0 4 3 ! 5",
+            "putThing 6 0 12 ! 1", "putThing 6 2 1 ! 4", "putThing 7 1 0 ! 5", "putThing 2 0 10 ! 5",
+            "number 2 0 6 ! 1", "point 2 0 5 ! 1", "take 6 0 12 ! 1", "take 10 0 2 ! 2", "take 0 0 2 ! 3",
+            "take 2 0 2 ! 6", "take 6 2 2 ! 4", "copy 2 7 ! 5", "copy 6 7 ! 5", "copy 4 2 ! 5", "gather 6 2 7 ! 5",
+            "gather 6 3 7 ! 5", "gather 4 9 2 ! 5", "gather 2 9 4 ! 4", "scatter 6 2 7 ! 5", "scatter 6 3 7 ! 5",
+            "scatter 2 9 4 ! 4", "merge 2 5 9 ! 6", "merge 2 3 4 ! 4", "sort 10 ! 2", "sort 0 ! 3", "turn 10 1 ! 2",
+            "turn 0 1 ! 3"};
         for (String call : calls) {
             SENTENCES.test("A refused call answers 0 and changes nothing but WHY: " + call,
                 HOUSE + "keep\n" + call + "\nkept\n");
         }
-        SENTENCES.test("A refused call answers 0 and changes nothing but WHY: merge, of which only the last value doesn't go", """
+        SENTENCES.test("A refused call answers 0 and changes nothing but WHY: merge, if just the last doesn't go", """
             fill 0 1: 1 2 3
             fill 1 5: 4
             fill 2 4: 7 8 9 6
