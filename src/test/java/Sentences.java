@@ -31,7 +31,7 @@ final class Sentences {
     private int calls = 0;
     private String kept = "";
 
-    /** A sentence, in the document's words, with runs that are not as written if it is broken. */
+    /** A sentence, in the document's words where it has them, with runs that are not as written if it is broken. */
     void test(String sentence, String... runs) {
         check.due("this is a test of its own: " + sentence, told.add(sentence) && runs.length > 0, true);
         for (String run : runs) {
