@@ -1,6 +1,20 @@
+import java.util.List;
+
 /** Calls of the face by their names: the answer is a Long, or a Double of point and total. */
 final class Calls {
+    static final List<String> NAMES = List.of("make", "lay", "places", "kind", "tag", "load", "put", "putBoxed",
+        "putThing", "number", "point", "what", "take", "copy", "gather", "scatter", "merge", "sort", "turn", "sum",
+        "total", "find", "alike", "why");
+    /** The reasons that each of them can be refused for, each once, in the order in which they are told first. */
+    private static final String[] REASONS = {"1", "1", "123", "1", "15", "15", "12345", "12345", "12345", "12345",
+        "12345", "1234", "12364", "12345", "123645", "123645", "123645", "123", "123", "1236", "1236", "1236", "123",
+        ""};
+
     private Calls() {
+    }
+
+    static String reasons(String name) {
+        return REASONS[NAMES.indexOf(name)];
     }
 
     static Object answer(ColumnHouse house, String name, int... p) {

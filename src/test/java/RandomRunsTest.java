@@ -5,10 +5,10 @@ public final class RandomRunsTest {
     /** After each call there is one of why(); what is left of 512 looks at the house at the end. */
     private static final int CALLS = 200;
     private static final int LOOKS = 112;
-    private static final String[] NAMES = {"make", "lay", "places", "kind", "tag", "load", "put", "putBoxed",
-        "putThing", "number", "point", "what", "take", "copy", "gather", "scatter", "merge", "sort", "turn", "sum",
-        "total", "find", "alike"};
-    /** How each call's parameters are drawn: c column, k kind, n size or tag, i place, s sort, a b value, t turn. */
+    /**
+     * How the parameters of each call but why() are drawn: c column, k kind, n size or tag, i place, s sort, a b value,
+     * t turn.
+     */
     private static final String[] DRAWS = {"ckn", "cc", "c", "c", "c", "c", "cisab", "cisab", "cic", "cis", "cis",
         "ci", "cic", "cc", "cxc", "cxc", "ccc", "c", "ct", "c", "c", "cisab", "cc"};
     private static final int[] EDGES = {0, 1, -1, 2, 12, 24, 25, 127, 128, 255, 32767, 32768, 65535, 65536, 1 << 24,
@@ -22,23 +22,21 @@ public final class RandomRunsTest {
 
     public static void main(String[] args) {
         Check check = new Check();
-        int[][] reached = new int[NAMES.length][7];
+        int[][] reached = new int[DRAWS.length][7];
         for (int run = 0; run < RUNS; run++) {
             plain = run % 3 == 0;
             size = draw(4) == 0 ? draw(plain ? 13 : 25) : draw(7);
             spread = 3 + draw(10);
             run(check, run, reached);
         }
-        for (int n = 0; n < NAMES.length; n++) {
-            check.due(NAMES[n] + " was done", reached[n][0] > 100, true);
+        for (int n = 0; n < DRAWS.length; n++) {
+            check.due(name(n) + " was done", reached[n][0] > 100, true);
         }
         // Where a reason can't be told at a call, nothing may have reached it, and all the others must be reached.
-        String[] reasons = {"1", "1", "123", "1", "15", "15", "12345", "12345", "12345", "12345", "12345", "1234",
-            "12346", "12345", "123456", "123456", "123456", "123", "123", "1236", "1236", "1236", "123"};
-        for (int n = 0; n < NAMES.length; n++) {
+        for (int n = 0; n < DRAWS.length; n++) {
             for (int reason = 1; reason <= 6; reason++) {
-                check.due(NAMES[n] + " refused by " + reason, reached[n][reason] > 0,
-                    reasons[n].indexOf('0' + reason) >= 0);
+                check.due(name(n) + " refused by " + reason, reached[n][reason] > 0,
+                    Calls.reasons(name(n)).indexOf('0' + reason) >= 0);
             }
         }
         check.end("RandomRunsTest");
@@ -49,13 +47,13 @@ public final class RandomRunsTest {
         Model model = new Model();
         for (int step = 0; step < CALLS; step++) {
             int n = step < 20 || draw(6) == 0 ? 0 : draw(4) == 0 ? 6 + draw(plain ? 2 : 3)
-                : plain && draw(4) == 0 ? MERGE : draw(NAMES.length);
+                : plain && draw(4) == 0 ? MERGE : draw(DRAWS.length);
             int[] p = new int[DRAWS[n].length()];
             for (int k = 0; k < p.length; k++) {
                 p[k] = parameter(DRAWS[n].charAt(k));
             }
-            String call = "run " + run + ", call " + step + ": " + NAMES[n] + java.util.Arrays.toString(p);
-            check.due(call, Calls.answer(house, NAMES[n], p), model.call(NAMES[n], p));
+            String call = "run " + run + ", call " + step + ": " + name(n) + java.util.Arrays.toString(p);
+            check.due(call, Calls.answer(house, name(n), p), model.call(name(n), p));
             int why = house.why();
             check.due("why() after " + call, why, model.why());
             reached[n][why]++;
@@ -74,6 +72,10 @@ public final class RandomRunsTest {
             check.due("run " + run + ", at its end: " + name + java.util.Arrays.toString(p),
                 Calls.answer(house, name, p), model.call(name, p));
         }
+    }
+
+    private static String name(int n) {
+        return Calls.NAMES.get(n);
     }
 
     private static int draw(int bound) {
